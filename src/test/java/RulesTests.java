@@ -1,0 +1,192 @@
+import java.lang.management.ManagementFactory;
+import java.lang.reflect.Constructor;
+import java.lang.reflect.Field;
+import java.lang.reflect.Method;
+import java.lang.reflect.Modifier;
+import java.nio.file.Files;
+import java.nio.file.Path;
+import java.util.ArrayList;
+import java.util.List;
+import java.util.Set;
+import java.util.TreeSet;
+import java.util.regex.Matcher;
+import java.util.regex.Pattern;
+
+/** Those rules of LANGUAGE.md that can be seen from outside or in the source, and the room that a run needs. */
+public final class RulesTests {
+    private static final String FACE = "int feed(int,int,int,int,int) int end(int) int text(int,int) int fault(int) int book(int,int) "
+        + "int word(int,int) int drift(int,int) int read(int,int,int) int deed(int,int,int) int stop(int,int) int state(int,int,int,int) "
+        + "int making(int,int,int,int) int ring(int,int) int reach(int,int,boolean) int sound(int,int) int like(int,int,int) "
+        + "int orbits(int,int,int) int rota(int,int,int) long mean(int,int,boolean) int elders(int,int,int,boolean) "
+        + "int play(int,int,int,int,int,boolean) int fact(int,int,int) int fits(int,int,int,int) int sure(int,int,int,int) "
+        + "int drawn(int,int,int,int) int kinship(int,int,boolean) int shared(int,int,boolean) int joined(int,int,int,boolean) "
+        + "int nearest(int,int,int,boolean) int settles(int,int,boolean) int unmade(int,boolean) int silenced(int,int,int) "
+        + "int circles(int,int) int count(int) boolean image(int) boolean again(int)";
+    private static int wrong = 0;
+
+    private static void must(boolean so, String what) {
+        if (!so) {
+            wrong++;
+            System.out.println("not so: " + what);
+        }
+    }
+
+    private static Set<String> face() {
+        Set<String> face = new TreeSet<>();
+        Matcher m = Pattern.compile("\\w+ \\w+\\([^)]*\\)").matcher(FACE);
+        while (m.find()) {
+            face.add(m.group());
+        }
+        return face;
+    }
+
+    private static void checkFace() {
+        Class<ReadAloud> c = ReadAloud.class;
+        must(Modifier.isPublic(c.getModifiers()) && Modifier.isFinal(c.getModifiers()), "the class is public and final");
+        Set<String> there = new TreeSet<>();
+        Set<String> names = new TreeSet<>();
+        for (Method m : c.getDeclaredMethods()) {
+            if (!Modifier.isPrivate(m.getModifiers())) {
+                StringBuilder s = new StringBuilder(m.getReturnType() + " " + m.getName() + "(");
+                for (Class<?> p : m.getParameterTypes()) {
+                    s.append(s.charAt(s.length() - 1) == '(' ? "" : ",").append(p);
+                }
+                there.add(s.append(')').toString());
+                names.add(m.getName());
+                must(Modifier.isPublic(m.getModifiers()), m + " is public");
+            }
+        }
+        must(there.equals(face()), "the methods are those of the face: " + there);
+        for (Constructor<?> k : c.getDeclaredConstructors()) {
+            must(Modifier.isPublic(k.getModifiers()) && k.getParameterCount() == 0, "the constructor is the face's: " + k);
+        }
+        for (Field f : c.getDeclaredFields()) {
+            must(Modifier.isPrivate(f.getModifiers()) || f.getName().equals("NONE"), f + " is private");
+        }
+        must(c.getDeclaredClasses().length + 1 <= 12, "there are at most twelve classes");
+        List<Class<?>> all = new ArrayList<>(List.of(c.getDeclaredClasses()));
+        for (Class<?> k : all) {
+            must(Modifier.isStatic(k.getModifiers()), k + " is static");
+        }
+        all.add(c);
+        for (Class<?> k : all) {
+            checkMembers(k, names);
+        }
+    }
+
+    private static void checkMembers(Class<?> c, Set<String> names) {
+        int fields = 0;
+        for (Field f : c.getDeclaredFields()) {
+            if (Modifier.isStatic(f.getModifiers())) {
+                must(Modifier.isFinal(f.getModifiers()), f + " is final");
+            } else {
+                fields++;
+            }
+        }
+        must(fields <= 20, c + " has at most twenty fields");
+        for (Method m : c.getDeclaredMethods()) {
+            must(m.getParameterCount() <= 7, m + " has at most seven parameters");
+            must(Modifier.isPublic(m.getModifiers()) || !names.contains(m.getName()), m + " has a name of its own");
+        }
+    }
+
+    private static void checkSource(String source) {
+        String code = source.replaceAll("(?s)/\\*.*?\\*/", "").replaceAll("//[^\n]*", "").replaceAll("\"[^\"]*\"", "\"\"");
+        String[] never = {"throw", "try", "catch", "synchronized", "assert", "package", "protected", "double", "float", "Exact", "Object",
+            "equals", "hashCode", "toString", "->", "::", "@", "System\\.(?!arraycopy)", "Random", "Thread"};
+        for (String word : never) {
+            String edge = word.matches("\\w+") ? "\\b" : "";
+            must(!Pattern.compile(edge + word + (word.equals("Exact") ? "" : edge)).matcher(code).find(), "there is no " + word);
+        }
+        for (String line : code.split("\n")) {
+            must(!line.startsWith("import") || line.equals("import java.util.Arrays;"), line);
+            must(line.chars().allMatch(c -> c < 128), "plain signs: " + line);
+        }
+        checkLengths(code.split("\n"));
+    }
+
+    private static void checkLengths(String[] lines) {
+        int start = -1;
+        String indent = "";
+        for (int i = 0; i < lines.length; i++) {
+            Matcher m = Pattern.compile("( {4}| {8})(?! )[\\w\\[\\]. ]*\\w\\([^)]*\\) \\{").matcher(lines[i]);
+            if (m.matches()) {
+                start = i;
+                indent = m.group(1);
+            } else if (start >= 0 && lines[i].equals(indent + "}")) {
+                must(i - start < 60, "at most sixty lines: " + lines[start]);
+                start = -1;
+            }
+        }
+    }
+
+    private static void put(ReadAloud x, int sort, int at, String text) {
+        String s = text + " ".repeat((20 - text.length() % 20) % 20);
+        for (int i = 0; i < s.length(); i += 20) {
+            int[] f = new int[5];
+            for (int j = 0; j < 20; j++) {
+                f[j / 4] = f[j / 4] << 8 | s.charAt(i + j);
+            }
+            x.feed(f[0], f[1], f[2], f[3], f[4]);
+        }
+        must(x.text(sort, at) >= 0, text);
+    }
+
+    /** Every dear call several times, with texts between, so that nothing can be taken from the call before. */
+    private static void dearRun() {
+        ReadAloud x = new ReadAloud();
+        String book = "text 0 1 2 3 0 1;kin 0 1;kin 1 2;kin 2 3;kin 3 0;reader;shift 0;reader;swap 1;turn;reader;turn;swap 3;shift 1;"
+            + "reader;drop 1;turn;reader;double 2;shift 2;turn;";
+        put(x, 0, -1, book);
+        put(x, 0, -1, book);
+        put(x, 1, -1, "read 0 1;copy 0 1;");
+        put(x, 2, -1, "seen 9 0 1;");
+        for (int i = 0; i < 16; i++) {
+            int b = i % 2;
+            put(x, 0, b, book);
+            x.image(i % 3);
+            x.again(i % 3);
+            x.state(b, 0, 2, 4);
+            x.making(b, 300 + i, 5460, 3);
+            x.ring(b, 5000 + i);
+            x.reach(b, 300 + i, true);
+            x.sound(b, 31);
+            x.like(b, 0, 4);
+            x.orbits(b, i % 5, 1);
+            x.rota(b, 9, 18);
+            x.mean(b, 9, true);
+            x.elders(b, 300 + i, 9, true);
+            x.play(b, 9, 1, 31, 31, true);
+            x.fits(b, 0, 9, -1);
+            x.sure(b, 0, 9, -1);
+            x.drawn(b, i, 60, 4);
+            x.shared(5460 - i, 1365 + i, true);
+            x.joined(b, 300 + i, 1365, true);
+            x.nearest(b, 300 + i, 1365, true);
+            x.settles(b, 300 + i, true);
+            x.unmade(b, true);
+            x.silenced(b, 300 + i, 5460);
+            x.circles(b, 300 + i);
+        }
+    }
+
+    private static void checkRoom() {
+        com.sun.management.ThreadMXBean threads = (com.sun.management.ThreadMXBean) ManagementFactory.getThreadMXBean();
+        dearRun();
+        long before = threads.getThreadAllocatedBytes(Thread.currentThread().getId());
+        dearRun();
+        long bytes = threads.getThreadAllocatedBytes(Thread.currentThread().getId()) - before;
+        // Of the run's own rows nearly all are of ints: this is well below the room's 7.3 million elements.
+        must(bytes < 3000000, "a run of dear calls makes rows of few bytes: " + bytes);
+    }
+
+    public static void main(String[] args) throws Exception {
+        checkFace();
+        checkSource(Files.readString(Path.of("src/main/java/ReadAloud.java")));
+        checkRoom();
+        System.out.println(wrong == 0 ? "the rules are kept" : wrong + " rules are not kept");
+        if (wrong != 0) {
+            System.exit(1);
+        }
+    }
+}
