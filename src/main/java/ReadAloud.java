@@ -753,7 +753,7 @@ public final class ReadAloud {
                 kind = END;
             } else if (isLetter(at)) {
                 kind = LETTERS;
-                while (isLetter(at)) {
+                while (at < length && isLetter(at)) {
                     at++;
                 }
             } else if (isDigit(at)) {
@@ -766,7 +766,7 @@ public final class ReadAloud {
 
         private void advanceDigits() {
             value = 0;
-            while (isDigit(at)) {
+            while (at < length && isDigit(at)) {
                 if (at - start < 2) {
                     value = value * 10 + (tape[at] - '0');
                 }
@@ -776,11 +776,11 @@ public final class ReadAloud {
         }
 
         private boolean isLetter(int i) {
-            return i < length && tape[i] >= 'a' && tape[i] <= 'z';
+            return tape[i] >= 'a' && tape[i] <= 'z';
         }
 
         private boolean isDigit(int i) {
-            return i < length && tape[i] >= '0' && tape[i] <= '9';
+            return tape[i] >= '0' && tape[i] <= '9';
         }
 
         private boolean isAtHand(String letters) {

@@ -129,6 +129,20 @@ public final class PromiseTests {
         due(x.book(0, 0), n("3210"));
         due(x.end(0), 0);
         due(x.end(1), NONE);
+        // Bytes behind the end are no part of a token that goes up to it.
+        put(x, "texta");
+        x.end(4);
+        due(x.text(0, NONE), NONE);
+        due(x.fault(0), 1);
+        due(x.fault(1), 4);
+        put(x, "seen 1 23;");
+        x.end(8);
+        due(x.text(2, NONE), NONE);
+        due(x.fault(0), 1);
+        due(x.fault(1), 8);
+        put(x, "seen 1 2;seen");
+        x.end(9);
+        due(x.text(2, NONE), 0);
     }
 
     private static void p4() {
@@ -466,6 +480,11 @@ public final class PromiseTests {
         }
         due(x.state(1, 0, 0, 0), -2);
         due(x.state(0, 1, 0, 0), -2);
+        tell(x, 1, "day;seal 3;");
+        due(x.state(0, 1, 2, 0), 1);
+        due(x.state(0, 1, 2, 1), 3);
+        due(x.state(0, 1, 3, 1), -2);
+        due(x.state(0, 0, 0, 1), 0);
     }
 
     private static void p13() {
@@ -913,6 +932,7 @@ public final class PromiseTests {
         due(x.silenced(1, n("0"), 0), 5);
         // Of two READERS, each of whom is needed, the least.
         due(x.silenced(0, n("01"), n("0")), 1);
+        due(with("reader;drop 1;reader;turn;drop 1;reader;drop 1;turn;").silenced(0, n("0"), 0), 7);
         due(x.silenced(0, -1, 0), NONE);
         due(x.silenced(0, 0, 5461), NONE);
         due(x.silenced(2, 0, 1), NONE);
@@ -994,7 +1014,22 @@ public final class PromiseTests {
         due(x.book(1, 0), n("3"));
         due(x.again(1), true);
         due(x.count(0), 1);
+        put(x, "reader;turn;reader;turn;");
+        due(x.again(1), true);
+        due(x.end(8), NONE);
         due(x.end(7), 7);
+        due(x.text(0, NONE), 1);
+        due(x.book(1, 0), n("3"));
+        due(x.book(1, 1), 0);
+        due(x.again(1), true);
+        due(x.deed(0, NONE, 0), 1);
+        due(x.fact(0, NONE, 0), 1);
+        tell(x, 1, "");
+        x.text(1, 0);
+        x.text(2, 0);
+        due(x.again(1), true);
+        due(x.deed(0, NONE, 0), 1);
+        due(x.fact(0, NONE, 0), 1);
         due(x.again(-1), false);
         due(x.again(3), false);
         due(x.again(0), false);
