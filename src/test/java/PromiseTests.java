@@ -2,80 +2,8 @@
  * The promises one by one, with answers worked out by hand: ordinary inputs, edges, wrong inputs.
  * A method p7 has the tests of promise 7.
  */
-public final class PromiseTests {
-    private static final int NONE = ReadAloud.NONE;
-    private static final int MIN = Integer.MIN_VALUE;
-    private static final int MAX = Integer.MAX_VALUE;
+public final class PromiseTests extends Kit {
     private static final String SMALL = "text 0 1;kin 0 1;reader;drop 1;reader;turn;reader;double 1;";
-    private static int wrong = 0;
-    private static int promise = 0;
-    private static int row = 0;
-
-    private static void due(long got, long want) {
-        row++;
-        if (got != want) {
-            wrong++;
-            System.out.println("promise " + promise + ", row " + row + " of " + at() + ": answered " + got + ", due is " + want);
-        }
-    }
-
-    private static void due(boolean got, boolean want) {
-        due(got ? 1 : 0, want ? 1 : 0);
-    }
-
-    private static String at() {
-        for (StackTraceElement e : new Throwable().getStackTrace()) {
-            if (e.getMethodName().matches("p[0-9]+")) {
-                return e.toString();
-            }
-        }
-        return "?";
-    }
-
-    private static int n(String text) {
-        int number = 0;
-        for (char c : text.toCharArray()) {
-            number = 4 * number + 1 + (c - '0');
-        }
-        return number;
-    }
-
-    private static void put(ReadAloud x, String text) {
-        StringBuilder s = new StringBuilder(text);
-        while (s.length() % 20 != 0) {
-            s.append('#');
-        }
-        x.end(0);
-        for (int i = 0; i < s.length(); i += 20) {
-            int[] f = new int[5];
-            for (int j = 0; j < 20; j++) {
-                f[j / 4] = f[j / 4] << 8 | s.charAt(i + j);
-            }
-            x.feed(f[0], f[1], f[2], f[3], f[4]);
-        }
-        x.end(text.length());
-    }
-
-    private static int tell(ReadAloud x, int sort, String text) {
-        put(x, text);
-        return x.text(sort, NONE);
-    }
-
-    private static ReadAloud with(String... books) {
-        ReadAloud x = new ReadAloud();
-        for (String b : books) {
-            due(tell(x, 0, b) >= 0, true);
-        }
-        return x;
-    }
-
-    private static String many(String line, int times) {
-        StringBuilder s = new StringBuilder();
-        for (int i = 0; i < times; i++) {
-            s.append(line);
-        }
-        return s.toString();
-    }
 
     private static void p1() {
         ReadAloud x = new ReadAloud();
@@ -1037,50 +965,47 @@ public final class PromiseTests {
     }
 
     private static void all() {
-        promise = 1; p1();
-        promise = 2; p2();
-        promise = 3; p3();
-        promise = 4; p4();
-        promise = 5; p5();
-        promise = 6; p6();
-        promise = 7; p7();
-        promise = 8; p8();
-        promise = 9; p9();
-        promise = 10; p10();
-        promise = 11; p11();
-        promise = 12; p12();
-        promise = 13; p13();
-        promise = 14; p14();
-        promise = 15; p15();
-        promise = 16; p16();
-        promise = 17; p17();
-        promise = 18; p18();
-        promise = 19; p19();
-        promise = 20; p20();
-        promise = 21; p21();
-        promise = 22; p22();
-        promise = 23; p23();
-        promise = 24; p24();
-        promise = 25; p25();
-        promise = 26; p26();
-        promise = 27; p27();
-        promise = 28; p28();
-        promise = 29; p29();
-        promise = 30; p30();
-        promise = 31; p31();
-        promise = 32; p32();
-        promise = 33; p33();
-        promise = 34; p34();
-        promise = 35; p35();
-        promise = 36; p36();
-        promise = 37; p37();
+        says("promise 1"); p1();
+        says("promise 2"); p2();
+        says("promise 3"); p3();
+        says("promise 4"); p4();
+        says("promise 5"); p5();
+        says("promise 6"); p6();
+        says("promise 7"); p7();
+        says("promise 8"); p8();
+        says("promise 9"); p9();
+        says("promise 10"); p10();
+        says("promise 11"); p11();
+        says("promise 12"); p12();
+        says("promise 13"); p13();
+        says("promise 14"); p14();
+        says("promise 15"); p15();
+        says("promise 16"); p16();
+        says("promise 17"); p17();
+        says("promise 18"); p18();
+        says("promise 19"); p19();
+        says("promise 20"); p20();
+        says("promise 21"); p21();
+        says("promise 22"); p22();
+        says("promise 23"); p23();
+        says("promise 24"); p24();
+        says("promise 25"); p25();
+        says("promise 26"); p26();
+        says("promise 27"); p27();
+        says("promise 28"); p28();
+        says("promise 29"); p29();
+        says("promise 30"); p30();
+        says("promise 31"); p31();
+        says("promise 32"); p32();
+        says("promise 33"); p33();
+        says("promise 34"); p34();
+        says("promise 35"); p35();
+        says("promise 36"); p36();
+        says("promise 37"); p37();
     }
 
     public static void main(String[] args) {
         all();
-        System.out.println(wrong == 0 ? row + " answers are as due" : wrong + " answers are not as due");
-        if (wrong != 0) {
-            System.exit(1);
-        }
+        finish();
     }
 }

@@ -13,7 +13,7 @@ import java.util.regex.Matcher;
 import java.util.regex.Pattern;
 
 /** Those rules of LANGUAGE.md that can be seen from outside or in the source, and the room that a run needs. */
-public final class RulesTests {
+public final class RulesTests extends Kit {
     private static final String FACE = "int feed(int,int,int,int,int) int end(int) int text(int,int) int fault(int) int book(int,int) "
         + "int word(int,int) int drift(int,int) int read(int,int,int) int deed(int,int,int) int stop(int,int) int state(int,int,int,int) "
         + "int making(int,int,int,int) int ring(int,int) int reach(int,int,boolean) int sound(int,int) int like(int,int,int) "
@@ -121,15 +121,7 @@ public final class RulesTests {
     }
 
     private static void put(ReadAloud x, int sort, int at, String text) {
-        String s = text + " ".repeat((20 - text.length() % 20) % 20);
-        for (int i = 0; i < s.length(); i += 20) {
-            int[] f = new int[5];
-            for (int j = 0; j < 20; j++) {
-                f[j / 4] = f[j / 4] << 8 | s.charAt(i + j);
-            }
-            x.feed(f[0], f[1], f[2], f[3], f[4]);
-        }
-        must(x.text(sort, at) >= 0, text);
+        must(tell(x, sort, at, text) >= 0, text);
     }
 
     /** Every dear call several times, with texts between, so that nothing can be taken from the call before. */
@@ -141,7 +133,8 @@ public final class RulesTests {
         put(x, 0, -1, book);
         put(x, 1, -1, "read 0 1;copy 0 1;");
         put(x, 2, -1, "seen 9 0 1;");
-        for (int i = 0; i < 16; i++) {
+        // A round has 23 calls and some 12 more for its text: in all they are less than the 512 that an object is for.
+        for (int i = 0; i < 12; i++) {
             int b = i % 2;
             put(x, 0, b, book);
             x.image(i % 3);
