@@ -6,6 +6,11 @@ public final class AnswerBoundsTests extends Kit {
     // Five READERS, each of whom changes two neighbours: of a TEXT come all orders of its WORDS.
     private static final String SWAPS = FULL + "reader;swap 1;reader;swap 2;reader;swap 3;reader;swap 4;reader;swap 5;";
 
+    // Any order of the WORDS, any of them twice, any dropped: of a TEXT come all TEXTS of some of its WORDS.
+    private static final String ANYHOW = "reader;double 1;reader;swap 1;reader;swap 1;swap 2;swap 3;swap 4;reader;swap 5;reader;drop 1;";
+    // How many TEXTS there are of one certain WORD, of two, three, four, each of them being there.
+    private static final int[] OF_WORDS = {1, 6, 114, 732, 1824};
+
     // ---- Terms 1
 
     private static void numbers() {
@@ -201,8 +206,15 @@ public final class AnswerBoundsTests extends Kit {
         says("seal: that COPY is SEALED.");
         ReadAloud x = year(DROPS, "seal 0;seal 3;seal 3;seal 1;restore 3;restore 0;restore 1;");
         int[] sealed = {0, 0, 3, 3, 1, 1, 1};
-        for (int n = 0; n < 7; n++) {
+        for (int n = 6; n >= 0; n--) {
             due(x.state(0, 0, n, 1), sealed[n]);
+        }
+        // What was asked of before is no part of it: the day, the SEALED COPY, HUSHED ones.
+        for (int what : new int[] {0, 1, 2, 4, 5, 20}) {
+            due(x.state(0, 0, 6, 1), 1);
+            due(x.state(0, 0, 0, what), 0);
+            due(x.state(0, 0, 6, 1), 1);
+            due(x.drawn(0, 1, 0, what), 0);
         }
         due(x.stop(0, 0), 6);
         says("copy: the other COPY has the first one's TEXT.");
@@ -338,6 +350,10 @@ public final class AnswerBoundsTests extends Kit {
             due(x.reach(1, t, false), 1);
             due(x.reach(1, t, true), 0);
         }
+        x = with(ANYHOW);
+        due(x.reach(0, n("0123"), false), TEXTS);
+        due(x.reach(0, n("333210"), false), TEXTS);
+        due(x.reach(0, n("231"), false), OF_WORDS[3] + 3 * OF_WORDS[2] + 3 * OF_WORDS[1] + 1);
         x = with(SWAPS, "");
         due(x.reach(0, n("0123"), false), 24);
         due(x.reach(0, n("0123"), true), 6);
@@ -563,6 +579,21 @@ public final class AnswerBoundsTests extends Kit {
         }
     }
 
+    /** One SIGHT behind the other, of one BOOK: the answers are those of each one. */
+    private static void twoSights() {
+        says("By a SIGHT");
+        ReadAloud x = sight(DROPS, "");
+        due(tell(x, 2, "seen 0 1;"), 1);
+        for (int n = 9; n >= 0; n--) {
+            due(x.fits(0, 0, n, NONE), 1);
+            due(x.fits(0, 1, n, NONE), 0);
+            due(x.fits(0, 1, n, n(LONGEST)), 0);
+            due(x.sure(0, 0, n, NONE), 0);
+            due(x.sure(0, 1, n, NONE), NONE);
+            due(x.rota(0, n, 0), Math.min(n, 6));
+        }
+    }
+
     private static void sures() {
         says("SURE of a reading k, 0 .. n less 1: the READER of it in all.");
         // Of "01" comes "" by two drops; by three readings these and any one behind them, or a turn ahead or between.
@@ -701,6 +732,11 @@ public final class AnswerBoundsTests extends Kit {
         due(x.nearest(0, n(LONGEST), n(LONGEST), true), n(LONGEST));
         due(x.nearest(0, n(LONGEST), 0, false), 0);
         due(x.nearest(0, n(LONGEST), 0, true), 0);
+        for (int length = 0; length <= 6; length++) {
+            // It comes to this one, and to nearer and farther ones behind it.
+            due(x.nearest(0, n(LONGEST), n(LONGEST.substring(6 - length)), false), 0);
+            due(x.nearest(0, n(LONGEST), n(LONGEST.substring(6 - length)), true), n(LONGEST.substring(6 - length)));
+        }
         due(x.nearest(0, 0, 5460, false), 6);
         due(x.nearest(0, 0, 5460, true), 0);
         // "" and "1" are one WORD off "2", "01" two.
@@ -802,6 +838,24 @@ public final class AnswerBoundsTests extends Kit {
         due(x.circles(1, 5460), 6);
         due(x.circles(1, 0), 1);
         due(x.circles(1, -2), 6);
+        // The first five WORDS go round: circles of 5, of 1 where they are of a kind, of n where there are only n.
+        x = with("reader;swap 1;swap 2;swap 3;swap 4;");
+        due(x.circles(0, NONE), 1 + 4 + 10 + 24 + 70 + 208 + 4 * 208);
+        due(x.circles(0, -2), 5);
+        due(x.circles(0, n("012301")), 5);
+        due(x.circles(0, n("01230")), 5);
+        due(x.circles(0, n("0123")), 4);
+        due(x.circles(0, n("012")), 3);
+        due(x.circles(0, n("0101")), 2);
+        due(x.circles(0, n("000001")), 1);
+        x = with(ANYHOW);
+        due(x.circles(0, NONE), 16);
+        due(x.circles(0, -2), 1824);
+        for (int words = 0; words <= 4; words++) {
+            due(x.circles(0, n("3210".substring(0, words))), OF_WORDS[words]);
+            due(x.circles(0, NONE), 16);
+            due(x.circles(0, -2), 1824);
+        }
     }
 
     private static void told() {
@@ -852,6 +906,7 @@ public final class AnswerBoundsTests extends Kit {
         elders();
         plays();
         fits();
+        twoSights();
         sures();
         draws();
         kinships();

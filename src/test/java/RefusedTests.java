@@ -203,6 +203,30 @@ public final class RefusedTests extends Kit {
         }
     }
 
+    /** All questions of one object, by a stride so that others are between: each is answered as by a new one. */
+    private static void askedBefore(int stride) {
+        List<Row> rows = new ArrayList<>();
+        List<int[]> asked = new ArrayList<>();
+        for (Row row : ROWS) {
+            for (int i = 0; i < row.arguments.length && !List.of("end", "image", "again").contains(row.name); i++) {
+                for (int value : row.arguments[i].good) {
+                    rows.add(row);
+                    asked.add(changed(row.fine, i, value));
+                }
+            }
+        }
+        ReadAloud x = full();
+        for (int i = 0; i < rows.size(); i++) {
+            // Behind 300 calls a new one, as one is for 512 calls and full() has less than 100.
+            x = i % 300 == 299 ? full() : x;
+            int k = (int) ((long) i * stride % rows.size());
+            Row row = rows.get(k);
+            says(call(row, asked.get(k)) + " is answered as if nothing had been asked before");
+            long once = row.call.ask(x, asked.get(k));
+            due(row.call.ask(full(), asked.get(k)), once);
+        }
+    }
+
     private static void alike(ReadAloud x, ReadAloud y) {
         for (int sort = -1; sort <= 3; sort++) {
             due(x.count(sort), y.count(sort));
@@ -255,6 +279,9 @@ public final class RefusedTests extends Kit {
             refused(row);
             missing(row, new ReadAloud(), 0);
             missing(row, one(), 1);
+        }
+        for (int stride : new int[] {1, 7, 61}) {
+            askedBefore(stride);
         }
         finish();
     }

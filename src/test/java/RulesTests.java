@@ -163,14 +163,30 @@ public final class RulesTests extends Kit {
         }
     }
 
-    private static void checkRoom() {
+    /** As many texts as an object has calls: each one makes a BOOK, YEAR or SIGHT anew. */
+    private static void tellingRun() {
+        ReadAloud x = new ReadAloud();
+        for (int i = 0; i < 510; i++) {
+            int sort = i / 2 % 3;
+            must(x.text(sort, i < 6 ? -1 : i % 2) == i % 2, "text " + i);
+        }
+        x.image(0);
+    }
+
+    private static long bytesOf(Runnable run) {
         com.sun.management.ThreadMXBean threads = (com.sun.management.ThreadMXBean) ManagementFactory.getThreadMXBean();
-        dearRun();
+        run.run();
         long before = threads.getThreadAllocatedBytes(Thread.currentThread().getId());
-        dearRun();
-        long bytes = threads.getThreadAllocatedBytes(Thread.currentThread().getId()) - before;
-        // Of the run's own rows nearly all are of ints: this is well below the room's 7.3 million elements.
-        must(bytes < 3000000, "a run of dear calls makes rows of few bytes: " + bytes);
+        run.run();
+        return threads.getThreadAllocatedBytes(Thread.currentThread().getId()) - before;
+    }
+
+    private static void checkRoom() {
+        // Of a run's own rows nearly all are of ints: this is well below the room's 7.3 million elements.
+        long dear = bytesOf(RulesTests::dearRun);
+        must(dear < 3000000, "a run of dear calls makes rows of few bytes: " + dear);
+        long telling = bytesOf(RulesTests::tellingRun);
+        must(telling < 1000000, "a run of texts makes rows of few bytes: " + telling);
     }
 
     public static void main(String[] args) throws Exception {

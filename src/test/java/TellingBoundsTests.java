@@ -370,6 +370,24 @@ public final class TellingBoundsTests extends Kit {
         }
     }
 
+    private static void letters() {
+        says("1 the first byte or token with which no text goes on");
+        for (int sort = 0; sort < 3; sort++) {
+            for (int head = 0; head < HEADS[sort].length; head++) {
+                String word = HEADS[sort][head];
+                String rest = " 1 2".substring(0, 2 * Math.min(2, FEWEST[sort][head])) + ";";
+                String front = before(sort, head);
+                fine(sort, front + word + rest);
+                for (int i = 0; i < word.length(); i++) {
+                    told(sort, front + word.substring(0, i) + "z" + word.substring(i + 1) + rest, 1, front.length());
+                    told(sort, front + word.substring(0, i) + word.substring(i + 1) + rest, 1, front.length());
+                    told(sort, front + word.substring(0, i) + "z" + word.substring(i) + rest, 1, front.length());
+                    told(sort, front + word.substring(0, i) + Character.toUpperCase(word.charAt(i)) + word.substring(i + 1) + rest, 1, front.length());
+                }
+            }
+        }
+    }
+
     private static void empties() {
         for (int sort = 0; sort < 3; sort++) {
             for (String text : new String[] {"", " ", "\n", " \n \n"}) {
@@ -697,6 +715,7 @@ public final class TellingBoundsTests extends Kit {
         bytes();
         tokens();
         shapes();
+        letters();
         empties();
         numbersThatCan();
         tooMany();
