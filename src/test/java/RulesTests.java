@@ -7,7 +7,9 @@ import java.nio.file.Files;
 import java.nio.file.Path;
 import java.util.ArrayList;
 import java.util.List;
+import java.util.Map;
 import java.util.Set;
+import java.util.TreeMap;
 import java.util.TreeSet;
 import java.util.regex.Matcher;
 import java.util.regex.Pattern;
@@ -22,6 +24,7 @@ public final class RulesTests extends Kit {
         + "int drawn(int,int,int,int) int kinship(int,int,boolean) int shared(int,int,boolean) int joined(int,int,int,boolean) "
         + "int nearest(int,int,int,boolean) int settles(int,int,boolean) int unmade(int,boolean) int silenced(int,int,int) "
         + "int circles(int,int) int count(int) boolean image(int) boolean again(int)";
+    private static final Pattern METHOD = Pattern.compile("( {4}| {8})(?! )[\\w\\[\\]. ]*?(\\w+)\\([^)]*\\) \\{");
     private static int wrong = 0;
 
     private static void must(boolean so, String what) {
@@ -103,13 +106,56 @@ public final class RulesTests extends Kit {
             must(line.chars().allMatch(c -> c < 128), "plain signs: " + line);
         }
         checkLengths(code.split("\n"));
+        checkDepth(callsOf(code.split("\n")));
+    }
+
+    /** Which methods a method calls, by names; methods of one name count as one, which can only seem deeper. */
+    private static Map<String, Set<String>> callsOf(String[] lines) {
+        Map<String, Set<String>> calls = new TreeMap<>();
+        Set<String> calledHere = null;
+        for (String line : lines) {
+            Matcher head = METHOD.matcher(line);
+            if (head.matches()) {
+                calledHere = calls.computeIfAbsent(head.group(2), name -> new TreeSet<>());
+            } else if (calledHere != null) {
+                Matcher call = Pattern.compile("(\\w+)\\(").matcher(line);
+                while (call.find()) {
+                    calledHere.add(call.group(1));
+                }
+            }
+        }
+        return calls;
+    }
+
+    /** Rule 11: calls go at most eight deep; a recursion, of which there is none, would go on to the bound. */
+    private static void checkDepth(Map<String, Set<String>> calls) {
+        must(calls.size() > 100, "the methods are found: " + calls.keySet());
+        int deepest = 0;
+        for (String name : calls.keySet()) {
+            int depth = depthOf(name, calls, 20);
+            must(depth <= 8, name + " goes at most eight calls deep: " + depth);
+            deepest = Math.max(deepest, depth);
+        }
+        must(deepest > 5, "calls are found: " + deepest);
+    }
+
+    private static int depthOf(String name, Map<String, Set<String>> calls, int bound) {
+        int deepest = 0;
+        if (bound > 0) {
+            for (String called : calls.get(name)) {
+                if (calls.containsKey(called)) {
+                    deepest = Math.max(deepest, depthOf(called, calls, bound - 1));
+                }
+            }
+        }
+        return deepest + 1;
     }
 
     private static void checkLengths(String[] lines) {
         int start = -1;
         String indent = "";
         for (int i = 0; i < lines.length; i++) {
-            Matcher m = Pattern.compile("( {4}| {8})(?! )[\\w\\[\\]. ]*\\w\\([^)]*\\) \\{").matcher(lines[i]);
+            Matcher m = METHOD.matcher(lines[i]);
             if (m.matches()) {
                 start = i;
                 indent = m.group(1);
